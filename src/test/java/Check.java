@@ -1,0 +1,79 @@
+/** What the tests share: counting wrong answers, and writing into the buffer. */
+final class Check {
+    private static int wrong = 0;
+
+    /** A call that may throw. */
+    interface Call {
+        void run();
+    }
+
+    private Check() {
+    }
+
+    static void due(String call, long want, long got) {
+        if (got != want) {
+            fail(call + " answered " + got + ", due is " + want);
+        }
+    }
+
+    static void dueDouble(String call, double want, double got) {
+        if (Double.doubleToLongBits(got) != Double.doubleToLongBits(want)) {
+            fail(call + " answered " + got + ", due is " + want);
+        }
+    }
+
+    static void fail(String text) {
+        wrong++;
+        System.out.println(text);
+    }
+
+    static String thrownBy(Call call) {
+        try {
+            call.run();
+        } catch (RuntimeException e) {
+            return e.getClass().getSimpleName();
+        }
+        return "nothing";
+    }
+
+    /** The call must throw just this exception, and change nothing that the digest or the snapshot tells. */
+    static void refused(String name, Class<? extends RuntimeException> kind, PinCylinder x, Call call) {
+        long before = x.digest();
+        String thrown = thrownBy(call);
+        if (!thrown.equals(kind.getSimpleName())) {
+            fail(name + " threw " + thrown + ", due is " + kind.getSimpleName());
+        }
+        due("digest behind the refused " + name, before, x.digest());
+    }
+
+    static void noIndex(String name, PinCylinder x, Call call) {
+        refused(name, IndexOutOfBoundsException.class, x, call);
+    }
+
+    static void noArgument(String name, PinCylinder x, Call call) {
+        refused(name, IllegalArgumentException.class, x, call);
+    }
+
+    static void noState(String name, PinCylinder x, Call call) {
+        refused(name, IllegalStateException.class, x, call);
+    }
+
+    static void write(PinCylinder x, String text) {
+        for (int i = 0; i < text.length(); i++) {
+            x.append(text.charAt(i));
+        }
+    }
+
+    static int set(PinCylinder x, String text) {
+        x.clearBuffer();
+        write(x, text);
+        return x.pins();
+    }
+
+    static void end() {
+        if (wrong != 0) {
+            System.out.println(wrong + " answers are not as due");
+            System.exit(1);
+        }
+    }
+}
