@@ -876,10 +876,6 @@ public final class PinCylinder {
 
         void start() {
             phase = AT_TUNE;
-            tune = 0;
-            tooth = 0;
-            from = 0;
-            number = 0;
         }
 
         static boolean isSeparator(char sign) {
