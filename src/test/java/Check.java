@@ -1,6 +1,7 @@
 /** What the tests share: counting wrong answers, and writing into the buffer. */
 final class Check {
     private static int wrong = 0;
+    private static String test = "";
 
     /** A call that may throw. */
     interface Call {
@@ -24,7 +25,12 @@ final class Check {
 
     static void fail(String text) {
         wrong++;
-        System.out.println(text);
+        System.out.println(test.isEmpty() ? text : test + ": " + text);
+    }
+
+    /** Names the test that runs from now on. */
+    static void inTest(String name) {
+        test = name;
     }
 
     static String thrownBy(Call call) {
@@ -36,13 +42,18 @@ final class Check {
         return "nothing";
     }
 
-    /** The call must throw just this exception, and change nothing that the digest or the snapshot tells. */
-    static void refused(String name, Class<? extends RuntimeException> kind, PinCylinder x, Call call) {
-        long before = x.digest();
+    /** The call must throw just this exception. */
+    static void thrown(String name, Class<? extends RuntimeException> kind, Call call) {
         String thrown = thrownBy(call);
         if (!thrown.equals(kind.getSimpleName())) {
             fail(name + " threw " + thrown + ", due is " + kind.getSimpleName());
         }
+    }
+
+    /** The call must throw just this exception, and change nothing that the digest tells. */
+    static void refused(String name, Class<? extends RuntimeException> kind, PinCylinder x, Call call) {
+        long before = x.digest();
+        thrown(name, kind, call);
         due("digest behind the refused " + name, before, x.digest());
     }
 

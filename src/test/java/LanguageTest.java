@@ -150,8 +150,8 @@ public final class LanguageTest {
         }
         String code = text.replaceAll("(?s)/\\*.*?\\*/", "").replaceAll("//.*", "").replaceAll("\"[^\"]*\"", "\"\"");
         String[] ruledOut = {"\\bimport\\b", "\\bpackage\\b", "\\bcatch\\b", "\\btry\\b", "\\bfinally\\b",
-            "\\bassert\\b", "\\bsynchronized\\b", "->", "::", "Double\\.", "Exact\\b", "\\bObject\\b", "toString", "hashCode",
-            "equals", "\\bvar\\b", "\\byield\\b", "Random", "\\bThread\\b", "System\\.(?!arraycopy)"};
+            "\\bassert\\b", "\\bsynchronized\\b", "->", "::", "Double\\.", "Exact\\b", "\\bObject\\b", "toString",
+            "hashCode", "equals", "\\bvar\\b", "\\byield\\b", "Random", "\\bThread\\b", "System\\.(?!arraycopy)"};
         for (String wrong : ruledOut) {
             Matcher matcher = Pattern.compile(wrong).matcher(code);
             if (matcher.find()) {

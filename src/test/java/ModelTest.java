@@ -1,10 +1,12 @@
 /** Random runs, of which each answer is compared with the model's. */
 public final class ModelTest {
-    private static final int RUNS = 300;
-    private static final int CALLS = 170;
+    private static final int RUNS = 700;
+    /** An object is used for at most 512 calls, and a step of a run makes at most some 75 of them. */
+    private static final int CALLS = 512 - 75;
     private static final String SIGNS = "0123456789/:,;-3210a ~!";
 
     private long seed;
+    private int asked = 0;
     private PinCylinder x;
     private Model m;
 
@@ -45,14 +47,15 @@ public final class ModelTest {
     private void run(int run) {
         x = new PinCylinder();
         m = new Model();
-        for (int i = 0; i < CALLS; i++) {
+        while (asked < CALLS) {
             String call = call();
             if (call != null) {
-                Check.fail("run " + run + ", call " + i + ": " + call);
+                Check.fail("run " + run + ", call " + asked + ": " + call);
                 return;
             }
+            asked++;
             if (x.digest() != m.digest()) {
-                Check.fail("run " + run + ", call " + i + ": the digest differs");
+                Check.fail("run " + run + ", call " + asked + ": the digest differs");
                 return;
             }
         }
@@ -66,7 +69,8 @@ public final class ModelTest {
         }
     }
 
-    private static String same(String call, Answer got, Answer want) {
+    private String same(String call, Answer got, Answer want) {
+        asked++;
         String is = answered(got);
         String due = answered(want);
         return is.equals(due) ? null : call + " answered " + is + ", due is " + due;
@@ -111,6 +115,7 @@ public final class ModelTest {
 
     private String text() {
         if (below(4) > 0) {
+            asked++;
             x.clearBuffer();
             m.clearBuffer();
         }
