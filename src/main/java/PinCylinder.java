@@ -302,7 +302,9 @@ public final class PinCylinder {
         hash = mixedTunes(hash);
         hash = mixedTeeth(hash);
         hash = mixedNotes(hash);
-        hash = mixedProspects(hash);
+        hash = mixedOutcomes(hash);
+        hash = mixed(hash, fewestQuietVanes());
+        hash = mixed(hash, state.windOfSteps(2 * STEPS));
         hash = mixed(hash, bitsOfShare(cleanShare()));
         return mixedBuffer(hash);
     }
@@ -462,14 +464,13 @@ public final class PinCylinder {
         return result;
     }
 
-    private long mixedProspects(long hash) {
+    private long mixedOutcomes(long hash) {
         long result = hash;
         tryOut(40, state.vanes);
         for (int what = 0; what < OUTCOMES; what++) {
             result = mixed(result, outcome(what));
         }
-        result = mixed(result, fewestQuietVanes());
-        return mixed(result, state.windOfSteps(2 * STEPS));
+        return result;
     }
 
     private long mixedBuffer(long hash) {
